@@ -334,8 +334,8 @@ public final class DeadRuns {
     }
 
     private boolean isPiece(int first, int many) {
-        // The end is not added up before it is known to be small: first + many may be above every int.
-        return first >= 0 && many >= 1 && first < now.places && many <= now.places - first;
+        // The end is not added up here, as first + many may be above every int.
+        return first >= 0 && many >= 1 && many <= now.places - first;
     }
 
     private int edited(int first, int many, int edit, int number) {

@@ -159,6 +159,8 @@ public final class PromiseTest {
         due("erase(8, 1)", row.erase(8, 1), -1);
         due("erase(-1, 2)", row.erase(-1, 2), -1);
         due("erase(1, LARGE)", row.erase(1, LARGE), -1);
+        due("erase(1, 8)", row.erase(1, 8), -1);
+        due("erase(7, 2)", row.erase(7, 2), -1);
         due("erase(LARGE, LARGE)", row.erase(LARGE, LARGE), -1);
         due("erase(7, -1)", row.erase(7, -1), -1);
         dueRow(row, "1*7;x");
@@ -177,11 +179,14 @@ public final class PromiseTest {
         dueRow(row, "2*3;x*2;2*4");
         due("write(0, 9, 2)", row.write(0, 9, 2), 0);
         due("write(3, 2, 7)", row.write(3, 2, 7), 0);
+        due("write(8, 2, 7)", row.write(8, 2, 7), -1);
         due("write(9, 1, 7)", row.write(9, 1, 7), -1);
         due("write(0, 10, 10)", row.write(0, 10, 10), -1);
         due("write(0, 9, 10)", row.write(0, 9, 10), -2);
         due("write(0, 9, -1)", row.write(0, 9, -1), -2);
         dueRow(row, "2*3;x*2;2*4");
+        due("write(0, 1, 0)", row.write(0, 1, 0), 1);
+        dueRow(row, "0;2*2;x*2;2*4");
         DeadRuns full = fiftyRuns();
         full.insert(0, 1, 2);
         due("write(1, 1, 5)", full.write(1, 1, 5), -4);
@@ -199,6 +204,7 @@ public final class PromiseTest {
         due("add(0, 8, 9)", row.add(0, 8, 9), 6);
         dueRow(row, "7;0*2;x*2;3*2;0");
         due("add(3, 2, 1)", row.add(3, 2, 1), 0);
+        due("add(7, 2, 1)", row.add(7, 2, 1), -1);
         due("add(0, 0, 0)", row.add(0, 0, 0), -1);
         due("add(8, 1, 1)", row.add(8, 1, 1), -1);
         due("add(0, 1, 0)", row.add(0, 1, 0), -2);
@@ -221,6 +227,7 @@ public final class PromiseTest {
         due("kill(0, 8)", row.kill(0, 8), 3);
         dueRow(row, "x*8");
         due("kill(8, 1)", row.kill(8, 1), -1);
+        due("kill(7, 2)", row.kill(7, 2), -1);
         due("kill(0, 0)", row.kill(0, 0), -1);
         due("kill(SMALL, 1)", row.kill(SMALL, 1), -1);
         DeadRuns full = fiftyRuns();
@@ -239,6 +246,7 @@ public final class PromiseTest {
         dueRow(row, "0*7;1*3");
         due("revive(0, 10)", row.revive(0, 10), 0);
         due("revive(0, 11)", row.revive(0, 11), -1);
+        due("revive(9, 2)", row.revive(9, 2), -1);
         due("revive(10, 1)", row.revive(10, 1), -1);
         DeadRuns full = fiftyRuns();
         full.kill(0, 2);
@@ -272,6 +280,7 @@ public final class PromiseTest {
         dueRow(row, "4*2;x*2;4;2;3;x;1");
         due("turn(9, 1)", row.turn(9, 1), -1);
         due("turn(0, 10)", row.turn(0, 10), -1);
+        due("turn(8, 2)", row.turn(8, 2), -1);
         due("turn(3, 0)", row.turn(3, 0), -1);
         turnAtMostRuns();
     }
@@ -308,6 +317,7 @@ public final class PromiseTest {
         dueRow(row, "1*2;2*3;x*2;1");
         due("move(0, 0, 0)", row.move(0, 0, 0), -1);
         due("move(8, 1, -1)", row.move(8, 1, -1), -1);
+        due("move(7, 2, 0)", row.move(7, 2, 0), -1);
         due("move(0, 8, 1)", row.move(0, 8, 1), -2);
         due("move(0, 3, 6)", row.move(0, 3, 6), -2);
         due("move(0, 3, -1)", row.move(0, 3, -1), -2);
@@ -330,6 +340,9 @@ public final class PromiseTest {
             due("sign(" + at + ")", row.sign(at), -1);
         }
         due("sign(0) of an empty row", new DeadRuns().sign(0), -1);
+        DeadRuns full = fiftyRuns();
+        due("sign(49)", full.sign(49), 2);
+        due("sign(50)", full.sign(50), -1);
     }
 
     private static void ofRun() {
@@ -369,6 +382,11 @@ public final class PromiseTest {
         }
         due("count(5)", Pads.loaded("9*3000").count(5), 27000);
         due("count(6)", Pads.loaded("9*3000").count(6), 3000);
+        due("count(2)", Pads.loaded("x*7;1;x").count(2), 8);
+        int[] wantOfFull = {50, 50, 0, 50 * 17, 99, 75, 1, 0, 6, 0, 1};
+        for (int what = 0; what < wantOfFull.length; what++) {
+            due("count(" + what + ") of fifty runs", fiftyRuns().count(what), wantOfFull[what]);
+        }
     }
 
     private static void howMany() {
@@ -382,6 +400,7 @@ public final class PromiseTest {
         due("howMany(0, 9, 7)", row.howMany(0, 9, 7), 0);
         due("howMany(10, 1, 7)", row.howMany(10, 1, 7), -1);
         due("howMany(0, 11, 11)", row.howMany(0, 11, 11), -1);
+        due("howMany(9, 2, 7)", row.howMany(9, 2, 7), -1);
         due("howMany(0, -1, 1)", row.howMany(0, -1, 1), -1);
         due("howMany(0, 10, 11)", row.howMany(0, 10, 11), -2);
         due("howMany(0, 10, -1)", row.howMany(0, 10, -1), -2);
@@ -404,6 +423,10 @@ public final class PromiseTest {
         due("the bits by 0", Pads.bits(longRow), "1" + "101110111000");
         longRow.set(0, 2);
         due("the bits by 2", Pads.bits(longRow), "1" + "0001100" + "01110111000");
+        DeadRuns three = Pads.loaded("x*3;x*4;8*6");
+        three.set(0, 2);
+        due("the bits by 2", Pads.bits(three), "1" + "01111" + "01000" + "01110");
+        due("bit(850) of fifty runs", fiftyRuns().bit(850), -1);
     }
 
     private static void character() {
@@ -418,6 +441,8 @@ public final class PromiseTest {
         dueRow(Pads.loaded("9*9;8*10;7*99;6*100;5*999;4*1000"), "9*9;8*10;7*99;6*100;5*999;4*1000");
         dueRow(Pads.loaded("1*1;1;2*1"), "1*2;2");
         due("character(0) of an empty row", new DeadRuns().character(0), -1);
+        due("character(98) of fifty runs", fiftyRuns().character(98), '2');
+        due("character(99) of fifty runs", fiftyRuns().character(99), -1);
     }
 
     private static void size() {
@@ -459,6 +484,7 @@ public final class PromiseTest {
         due("longestLive(2) of an empty row", new DeadRuns().longestLive(2), -2);
         due("longestLive(1) of dead ones", Pads.loaded("x*5").longestLive(1), -6);
         due("longestLive(1) of live ones", Pads.loaded("0*5").longestLive(1), 5);
+        due("longestLive(1) of fifty runs", fiftyRuns().longestLive(1), 50);
     }
 
     private static void find() {
@@ -472,6 +498,8 @@ public final class PromiseTest {
             due("find(" + call[0] + ", " + call[1] + ")", row.find(call[0], call[1]), call[2]);
         }
         due("find in an empty row", new DeadRuns().find(0, 1), -6);
+        due("find in fifty runs", fiftyRuns().find(42, 12121212), 42);
+        due("find in fifty runs", fiftyRuns().find(43, 12121212), -6);
         due("a dead sign is no 0", Pads.loaded("1;x").find(0, 10), -6);
         due("nine in the midst", Pads.loaded("7*2990;1;2").find(0, 777777712), 2983);
     }
@@ -518,6 +546,17 @@ public final class PromiseTest {
         later.set(0, 1);
         // 1 and 1 to 2: 6 + 6 - 8; 3 and 3 to 6: 8 + 8 - 10.
         dueBestWrite(later, 3, 4, 6);
+        DeadRuns leftOrRight = Pads.loaded("0*6;1*2;2;x");
+        leftOrRight.set(0, 1);
+        // 6 and 2 to 8: 10 + 8 - 12; 2 and 1 to 3: 8 + 6 - 8; so 2 to 1 with 2 saves 6 as 6 to 2 does.
+        dueBestWrite(leftOrRight, 0, 1, 6);
+        DeadRuns zero = Pads.loaded("x;3;0;x");
+        dueBestWrite(zero, 1, 0, 17);
+        DeadRuns ofLeft = Pads.loaded("0*63;5;0*3;1;x");
+        ofLeft.set(0, 1);
+        // 63 and 1 and 3 to 67: 16 + 6 + 8 - 18; any other join has one run less.
+        dueBestWrite(ofLeft, 1, 0, 12);
+        dueBestWrite(fiftyRuns(), 1, 1, 34);
         DeadRuns row = Pads.loaded("x;4*2;9*2;2*2;x");
         dueBestWrite(row, 1, 9, 17);
         row.kill(1, 1);
@@ -536,6 +575,7 @@ public final class PromiseTest {
         due("unlikeMirror() of x*5 1*2 x*3", Pads.loaded("x*5;1*2;x*3").unlikeMirror(), 4);
         due("unlikeMirror() of 1*1500 2*1500", Pads.loaded("1*1500;2*1500").unlikeMirror(), 3000);
         due("unlikeMirror() of an empty row", new DeadRuns().unlikeMirror(), 0);
+        due("unlikeMirror() of fifty runs", fiftyRuns().unlikeMirror(), 50);
     }
 
     private static void put() {
