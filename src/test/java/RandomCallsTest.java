@@ -15,6 +15,7 @@ public final class RandomCallsTest {
     private final PlainModel model = new PlainModel();
     private final String seed;
     private final boolean withLongRuns;
+    private final boolean withManyRuns;
     private final StringBuilder told = new StringBuilder();
     private int wrong = 0;
 
@@ -22,6 +23,7 @@ public final class RandomCallsTest {
         this.random = new Random(seed);
         this.seed = "seed " + seed;
         this.withLongRuns = seed % 3 == 0;
+        this.withManyRuns = seed % 3 == 1;
     }
 
     public static void main(String[] args) {
@@ -39,6 +41,9 @@ public final class RandomCallsTest {
 
     private void callAll() {
         for (int i = 0; i < CALLS && wrong == 0; i++) {
+            if (withManyRuns && model.count(1) < 40) {
+                insertShortRuns();
+            }
             callOne(random.nextInt(METHODS));
             for (int what = 0; what <= 10; what++) {
                 same("count", row.count(what), model.count(what), what);
@@ -46,6 +51,16 @@ public final class RandomCallsTest {
             if (i % 16 == 0) {
                 compareAll();
             }
+        }
+    }
+
+    /** So that many edits stand near the most runs that there may be. */
+    private void insertShortRuns() {
+        for (int i = 0; i < 60 && model.count(1) < 49; i++) {
+            int at = random.nextInt(model.count(0) + 1);
+            int sign = random.nextInt(11);
+            int many = 1 + random.nextInt(3);
+            same3("insert", row.insert(at, sign, many), model.insert(at, sign, many), at, sign, many);
         }
     }
 
