@@ -41,7 +41,7 @@ public final class RandomCallsTest {
 
     private void callAll() {
         for (int i = 0; i < CALLS && wrong == 0; i++) {
-            if (withManyRuns && model.count(1) < 40) {
+            if (withManyRuns && model.count(1) < 40 && model.count(0) < 2800) {
                 insertShortRuns();
             }
             callOne(random.nextInt(METHODS));
