@@ -12,7 +12,7 @@ public final class DeadRuns {
     private static final int LAST_VALUE = 9;
     private static final int LAST_PATTERN = 999999999;
 
-    private static final int WRITING = 0, ADDING = 1, KILLING = 2, REVIVING = 3;
+    private static final int GIVING = 0, ADDING = 1, REVIVING = 2;
 
     private State now = new State();
     /** What an edit builds. It takes the place of now only when the edit is accepted, so an error changes nothing. */
@@ -83,7 +83,7 @@ public final class DeadRuns {
         if (!isWithin(value, 0, LAST_VALUE)) {
             return BAD_VALUE;
         }
-        return edited(first, many, WRITING, value);
+        return edited(first, many, GIVING, value);
     }
 
     public int add(int first, int many, int more) {
@@ -97,7 +97,7 @@ public final class DeadRuns {
     }
 
     public int kill(int first, int many) {
-        return isPiece(first, many) ? edited(first, many, KILLING, DEAD) : NO_SUCH;
+        return isPiece(first, many) ? edited(first, many, GIVING, DEAD) : NO_SUCH;
     }
 
     public int revive(int first, int many) {
@@ -472,10 +472,7 @@ public final class DeadRuns {
         }
 
         private static int signAfter(int edit, int sign, int number) {
-            if (edit == KILLING) {
-                return DEAD;
-            }
-            // Of the other edits only reviving touches a dead sign, and it touches no other.
+            // Only reviving touches a dead sign, and it touches no other: what is dead needs no killing.
             if ((edit == REVIVING) != (sign == DEAD)) {
                 return sign;
             }

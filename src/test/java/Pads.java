@@ -1,5 +1,8 @@
 /** Texts as the numbers that put takes. */
 final class Pads {
+    /** Above what a row can tell, so that a row which never ends its text fails a test and does not hold it up. */
+    private static final int MOST_TOLD = 2000;
+
     private Pads() {
     }
 
@@ -24,18 +27,36 @@ final class Pads {
         return row;
     }
 
+    /** A row of runs of one sign each, by turns a 1 and a 2, in few calls. */
+    static DeadRuns onesAndTwos(int runs) {
+        int loaded = Math.min(runs, 40);
+        StringBuilder text = new StringBuilder();
+        for (int i = 0; i < loaded; i++) {
+            text.append(i == 0 ? "" : ";").append(1 + i % 2);
+        }
+        DeadRuns row = loaded(text.toString());
+        for (int i = loaded; i < runs; i++) {
+            row.insert(i, 1 + i % 2, 1);
+        }
+        return row;
+    }
+
     static String told(DeadRuns row) {
         StringBuilder text = new StringBuilder();
-        for (int at = 0; row.character(at) != DeadRuns.NO_SUCH; at++) {
-            text.append((char) row.character(at));
+        int character = row.character(0);
+        while (character != DeadRuns.NO_SUCH && text.length() < MOST_TOLD) {
+            text.append((char) character);
+            character = row.character(text.length());
         }
         return text.toString();
     }
 
     static String bits(DeadRuns row) {
         StringBuilder bits = new StringBuilder();
-        for (int at = 0; row.bit(at) != DeadRuns.NO_SUCH; at++) {
-            bits.append(row.bit(at));
+        int bit = row.bit(0);
+        while (bit != DeadRuns.NO_SUCH && bits.length() < MOST_TOLD) {
+            bits.append(bit);
+            bit = row.bit(bits.length());
         }
         return bits.toString();
     }

@@ -1,9 +1,14 @@
 import java.util.Random;
 
-/** Long runs of calls on DeadRuns and on PlainModel; each answer has to be the same. The seeds are fixed. */
+/**
+ * Long runs of calls on DeadRuns and on PlainModel; each answer has to be the same. The seeds are fixed.
+ * Each object gets as many calls as the document lets it have, and none more.
+ */
 public final class RandomCallsTest {
-    private static final int OBJECTS = 120;
-    private static final int CALLS = 512;
+    private static final int OBJECTS = 800;
+    private static final int MOST_CALLS = 512;
+    /** More than one step takes, so that the last one ends in time. */
+    private static final int MOST_CALLS_OF_STEP = 100;
     private static final int METHODS = 28;
     private static final String[] TEXTS = {
         "x;1*2;x*3", "0*3000", "1;1;2*2;2", "5*10", "3*3001", "x*3000;1", "9*0", "7*12;", "a", ";", "1*", "x*299;1*9",
@@ -16,6 +21,8 @@ public final class RandomCallsTest {
     private final String seed;
     private final boolean withLongRuns;
     private final boolean withManyRuns;
+    private final boolean withAllCounts;
+    private int calls = 0;
     private final StringBuilder told = new StringBuilder();
     private int wrong = 0;
 
@@ -24,6 +31,7 @@ public final class RandomCallsTest {
         this.seed = "seed " + seed;
         this.withLongRuns = seed % 3 == 0;
         this.withManyRuns = seed % 3 == 1;
+        this.withAllCounts = seed % 4 == 0;
     }
 
     public static void main(String[] args) {
@@ -40,16 +48,25 @@ public final class RandomCallsTest {
     }
 
     private void callAll() {
-        for (int i = 0; i < CALLS && wrong == 0; i++) {
+        while (calls <= MOST_CALLS - 2 * MOST_CALLS_OF_STEP && wrong == 0) {
             if (withManyRuns && model.count(1) < 40 && model.count(0) < 2800) {
                 insertShortRuns();
             }
             callOne(random.nextInt(METHODS));
-            for (int what = 0; what <= 10; what++) {
+            compareCounts();
+        }
+        compareRow();
+        if (calls > MOST_CALLS) {
+            wrong++;
+            System.out.println(seed + ": " + calls + " calls of one object");
+        }
+    }
+
+    private void compareCounts() {
+        int only = random.nextInt(11);
+        for (int what = 0; what <= 10; what++) {
+            if (withAllCounts || what == only) {
                 same("count", row.count(what), model.count(what), what);
-            }
-            if (i % 16 == 0) {
-                compareAll();
             }
         }
     }
@@ -64,19 +81,25 @@ public final class RandomCallsTest {
         }
     }
 
-    private void compareAll() {
-        for (int at = -1; at <= model.count(0); at += 1 + random.nextInt(3)) {
-            same("sign", row.sign(at), model.sign(at), at);
+    /** With the calls that are left: stretches of the row, of its text and of its bits. */
+    private void compareRow() {
+        int most = (MOST_CALLS - calls) / 3;
+        int first = random.nextInt(model.count(0) + 1);
+        for (int i = 0; i < most; i++) {
+            same("sign", row.sign(first + i - 1), model.sign(first + i - 1), first + i - 1);
         }
-        for (int at = 0; at <= model.count(4); at++) {
-            same("character", row.character(at), model.character(at), at);
+        first = random.nextInt(model.count(4) + 1);
+        for (int i = 0; i < most; i++) {
+            same("character", row.character(first + i - 1), model.character(first + i - 1), first + i - 1);
         }
-        for (int at = 0; at <= model.count(3); at++) {
-            same("bit", row.bit(at), model.bit(at), at);
+        first = random.nextInt(model.count(3) + 1);
+        for (int i = 0; i < most; i++) {
+            same("bit", row.bit(first + i - 1), model.bit(first + i - 1), first + i - 1);
         }
     }
 
     private void same(String call, int got, int want, long... arguments) {
+        calls++;
         if (got != want && wrong == 0) {
             wrong++;
             System.out.println(seed + told + "\n" + call + java.util.Arrays.toString(arguments) + " answered " + got + ", due is " + want);
