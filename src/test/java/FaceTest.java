@@ -8,6 +8,7 @@ import java.util.ArrayList;
 import java.util.List;
 import java.util.Set;
 import java.util.TreeSet;
+import java.util.regex.Matcher;
 import java.util.regex.Pattern;
 
 /** The public face as the document has it, and those rules of ../shared/LANGUAGE.md that a program can look at. */
@@ -22,7 +23,13 @@ public final class FaceTest {
         "NO_SUCH=-1", "BAD_VALUE=-2", "BAD_TEXT=-3", "TOO_MANY=-4", "NOT_POSSIBLE=-5", "NONE=-6", "CODE=0", "SAVE_DEAD=1", "DEAD=10");
     private static final String[] RULED_OUT = {
         "\\bthrow\\b", "\\btry\\b", "\\bcatch\\b", "\\bsynchronized\\b", "\\bassert\\b", "\\bimport\\b", "\\bpackage\\b", "->", "::",
-        "\\bwhile\\s*\\(true\\)", "for\\s*\\(;;\\)", "\\bSystem\\.(?!arraycopy)", "\\bThread\\b", "\\bRandom\\b"};
+        "\\bwhile\\s*\\(true\\)", "for\\s*\\(;;\\)", "\\bSystem\\.(?!arraycopy)", "\\bThread\\b", "\\bRandom\\b",
+        "\\b(equals|hashCode|toString)\\b", "\\w+Exact\\b", "\\bstatic\\s*\\{"};
+    /** The names of the library that the rules let stand; the constants are in capitals, so they look otherwise. */
+    private static final Set<String> LIBRARY = Set.of("Math", "Integer", "Long", "System", "Arrays", "String", "StringBuilder");
+    private static final Pattern NAME_OF_CLASS = Pattern.compile("\\b[A-Z]\\w*[a-z]\\w*");
+    private static final Pattern METHOD = Pattern.compile("(?m)^( +)(?:[\\w\\[\\]]+ )+\\w+\\([^;{]*\\) \\{$");
+    private static final int MOST_LINES = 60, MOST_PARAMETERS = 7, MOST_FIELDS = 20;
 
     private static int wrong = 0;
 
@@ -42,7 +49,16 @@ public final class FaceTest {
         constants();
         constructors();
         classesInside();
-        ruledOut(Path.of(args.length > 0 ? args[0] : "src/main/java/DeadRuns.java"));
+        sizes(DeadRuns.class);
+        fieldTypes(DeadRuns.class);
+        for (Class<?> inside : DeadRuns.class.getDeclaredClasses()) {
+            sizes(inside);
+            fieldTypes(inside);
+        }
+        String source = withoutComments(Path.of(args.length > 0 ? args[0] : "src/main/java/DeadRuns.java"));
+        ruledOut(source);
+        library(source);
+        lengthsOfMethods(source);
         System.out.println("face: " + (wrong == 0 ? "as the document has it" : wrong + " faults"));
         if (wrong != 0) {
             System.exit(1);
@@ -87,7 +103,6 @@ public final class FaceTest {
                 due("modifiers of " + field.getName(), Modifier.toString(modifiers), "public static final");
                 found.add(field.getName() + "=" + field.get(null));
             }
-            due("static, but not final: " + field.getName(), Modifier.isStatic(modifiers) && !Modifier.isFinal(modifiers), false);
         }
         due("constants", found, CONSTANTS);
     }
@@ -107,10 +122,63 @@ public final class FaceTest {
         }
     }
 
-    private static void ruledOut(Path source) throws Exception {
-        String text = Files.readString(source).replaceAll("(?s)/\\*.*?\\*/|//[^\\n]*", "");
-        for (String pattern : RULED_OUT) {
-            due(source + " has " + pattern, Pattern.compile(pattern).matcher(text).find(), false);
+    private static void sizes(Class<?> type) {
+        int fields = 0;
+        for (Field field : type.getDeclaredFields()) {
+            fields += Modifier.isStatic(field.getModifiers()) ? 0 : 1;
         }
+        due("at most some twenty fields: " + type.getName(), fields <= MOST_FIELDS, true);
+        for (Method method : type.getDeclaredMethods()) {
+            due("at most seven parameters: " + told(method), method.getParameterCount() <= MOST_PARAMETERS, true);
+        }
+    }
+
+    private static void fieldTypes(Class<?> type) {
+        for (Field field : type.getDeclaredFields()) {
+            Class<?> held = field.getType();
+            boolean isStatic = Modifier.isStatic(field.getModifiers());
+            Class<?> element = held.isArray() ? held.getComponentType() : held;
+            boolean isOwn = element == DeadRuns.class || element.getEnclosingClass() == DeadRuns.class;
+            boolean mayStand = element.isPrimitive() || held == String.class || (isOwn && !isStatic);
+            due("type of " + type.getName() + "." + field.getName() + " may stand", mayStand, true);
+            due("static, but not final: " + field.getName(), isStatic && !Modifier.isFinal(field.getModifiers()), false);
+        }
+    }
+
+    private static String withoutComments(Path source) throws Exception {
+        return Files.readString(source).replaceAll("(?s)/\\*.*?\\*/|//[^\\n]*", "");
+    }
+
+    private static void ruledOut(String source) {
+        for (String pattern : RULED_OUT) {
+            due("the class has " + pattern, Pattern.compile(pattern).matcher(source).find(), false);
+        }
+    }
+
+    private static void library(String source) {
+        Set<String> strange = new TreeSet<>();
+        Matcher names = NAME_OF_CLASS.matcher(source);
+        while (names.find()) {
+            strange.add(names.group());
+        }
+        strange.removeAll(LIBRARY);
+        strange.remove(DeadRuns.class.getSimpleName());
+        for (Class<?> inside : DeadRuns.class.getDeclaredClasses()) {
+            strange.remove(inside.getSimpleName());
+        }
+        due("classes that are neither its own nor of the list", strange, Set.of());
+    }
+
+    /** A method ends at the first closing brace that stands as far in as its head. */
+    private static void lengthsOfMethods(String source) {
+        int found = 0;
+        Matcher heads = METHOD.matcher(source);
+        while (heads.find()) {
+            found++;
+            int end = source.indexOf("\n" + heads.group(1) + "}\n", heads.start());
+            long lines = source.substring(heads.start(), Math.max(heads.start(), end)).lines().count() + 1;
+            due("at most some sixty lines: " + heads.group().trim(), end > 0 && lines <= MOST_LINES, true);
+        }
+        due("the methods' heads are found", found > METHODS.size(), true);
     }
 }
